@@ -614,8 +614,7 @@ public final class BargainHall {
         for (int thing = 0; thing < THINGS; thing++) {
             all *= hasBit(pool, thing) ? 3 : 1;
         }
-        trial.become(talk.began);
-        trial.wishes[side] = guess;
+        trial.suppose(talk.began, side, guess);
         int count = 0;
         for (int code = 0; code < all; code++) {
             makeGuess(pool, code);
@@ -870,11 +869,12 @@ public final class BargainHall {
 
     /** Two sides of an EXCHANGE, a (0) and b (1): what they had at one moment, and their WISHES as they are. */
     private static final class Pair {
-        int thingsA;
-        int thingsB;
-        int coinsA;
-        int coinsB;
-        final Wish[] wishes = new Wish[2];
+        private int thingsA;
+        private int thingsB;
+        private int coinsA;
+        private int coinsB;
+        private Wish wishA;
+        private Wish wishB;
 
         Pair(House a, House b) {
             take(a, b);
@@ -885,17 +885,18 @@ public final class BargainHall {
             thingsB = b.things;
             coinsA = a.coins;
             coinsB = b.coins;
-            wishes[0] = a.wish;
-            wishes[1] = b.wish;
+            wishA = a.wish;
+            wishB = b.wish;
         }
 
-        void become(Pair other) {
+        /** The same as another pair, but for the WISH of one side. */
+        void suppose(Pair other, int side, Wish wish) {
             thingsA = other.thingsA;
             thingsB = other.thingsB;
             coinsA = other.coinsA;
             coinsB = other.coinsB;
-            wishes[0] = other.wishes[0];
-            wishes[1] = other.wishes[1];
+            wishA = side == 0 ? wish : other.wishA;
+            wishB = side == 0 ? other.wishB : wish;
         }
 
         int pool() {
@@ -906,20 +907,12 @@ public final class BargainHall {
             return (set & ~pool()) == 0;
         }
 
-        private int thingsOf(int side) {
-            return side == 0 ? thingsA : thingsB;
-        }
-
-        private Wish wishOf(int side) {
-            return side == 0 ? wishes[0] : wishes[1];
-        }
-
         boolean isBarredTo(int side, int set) {
-            return wishOf(side).bars[thingsOf(side) ^ set];
+            return side == 0 ? wishA.bars[thingsA ^ set] : wishB.bars[thingsB ^ set];
         }
 
         int worthThen(int side, int set) {
-            return wishOf(side).worths[thingsOf(side) ^ set];
+            return side == 0 ? wishA.worths[thingsA ^ set] : wishB.worths[thingsB ^ set];
         }
 
         int gained(int side, int set, int price) {
@@ -941,12 +934,12 @@ public final class BargainHall {
             return (gained(0, set, 0) - gained(1, set, 0)) / 2;
         }
 
-        private boolean isBarredToOne(int set) {
-            return isBarredTo(0, set) || isBarredTo(1, set);
+        private boolean isOpenToBoth(int set) {
+            return !wishA.bars[thingsA ^ set] && !wishB.bars[thingsB ^ set];
         }
 
         boolean isGood(int set, int price) {
-            return !isBarredToOne(set)
+            return isOpenToBoth(set)
                     && isWithin(coinsA - price, 0, MOST_COINS) && isWithin(coinsB + price, 0, MOST_COINS);
         }
 
@@ -955,7 +948,7 @@ public final class BargainHall {
             int found = -1;
             int most = 0;
             for (int set = 0; set < SETS; set++) {
-                if (isInPool(set) && !isBarredToOne(set) && (found < 0 || sumOfGains(set) > most)) {
+                if (isInPool(set) && isOpenToBoth(set) && (found < 0 || sumOfGains(set) > most)) {
                     found = set;
                     most = sumOfGains(set);
                 }
@@ -1025,11 +1018,11 @@ public final class BargainHall {
         }
 
         boolean isOffer(int i) {
-            return kindAt(i) == OFFER || kindAt(i) == COUNTER;
+            return hasWord(i) && (kinds[i] == OFFER || kinds[i] == COUNTER);
         }
 
         boolean isWord(int i, int kind, int set, int price) {
-            return kindAt(i) == kind && setAt(i) == set && priceAt(i) == price;
+            return hasWord(i) && kinds[i] == kind && sets[i] == set && prices[i] == price;
         }
 
         int offerKind(int place) {
@@ -1206,7 +1199,8 @@ public final class BargainHall {
         }
 
         private static int mostParted(Wish wish, int[] others, int pool) {
-            int most = others[pool] == NO_VALUE ? NO_VALUE : others[pool] + wish.worths[0];
+            // no THINGS are worth 0 and never BARRED; each part is below the one ahead of it, down to these none
+            int most = others[pool];
             for (int part = pool; part > 0; part = (part - 1) & pool) {
                 int left = others[pool ^ part];
                 if (left != NO_VALUE && !wish.bars[part]) {

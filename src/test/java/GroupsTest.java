@@ -9,6 +9,7 @@ public final class GroupsTest {
         rest();
         unrest();
         share();
+        shareOfOnesOwn();
         shareWithoutValues();
         envy();
         CHECK.finish();
@@ -141,6 +142,16 @@ public final class GroupsTest {
         long sum = x.share(0) + x.share(1) + x.share(2) + x.share(3);
         due("27 all shares are the value of all", sum, 24 * 24);
         due("27 of 0, with three", x.share(0), 6 * 0 + 2 * (12 + 12 + 24) + 2 * (12 + 24 + 24) + 6 * 24);
+    }
+
+    private static void shareOfOnesOwn() {
+        BargainHall x = new BargainHall();
+        Check.wish(x, 0, "a10");
+        due("27 what it has alone", x.share(0), 240);
+        due("27 of one that brings nothing", x.share(3), 0);
+        Check.wish(x, 3, "a30");
+        due("27 of 0: 10 as the first, 20 more with 3", x.share(0), 12 * 10 + 12 * 30);
+        due("27 of 3", x.share(3), 12 * 20);
     }
 
     private static void shareWithoutValues() {

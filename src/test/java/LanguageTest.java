@@ -27,7 +27,7 @@ public final class LanguageTest {
         face();
         insideClasses();
         words(source);
-        names(source);
+        makings(source);
         lengths(source);
         constants();
         CHECK.finish();
@@ -156,7 +156,7 @@ public final class LanguageTest {
     }
 
     /** Objects and arrays are made where an object begins, by fields and constructors, and by no call. */
-    private static void names(String source) {
+    private static void makings(String source) {
         int depth = 0;
         String method = "";
         for (String line : withoutComments(source).split("\n")) {

@@ -72,6 +72,8 @@ public final class RowsTest {
 
     private static void proves() {
         BargainHall x = new BargainHall();
+        due("41 a row of 0", x.proves(5, 0, 0, sum(0, 0), sum(sum(0, 0), sum(0, 0))), 1);
+        due("41 0 may be", x.proves(5, 0, 0, 0, 0), 0);
         for (int i = 0; i < 8; i++) {
             x.row(i, 111 * i + 20);
         }

@@ -21,6 +21,7 @@ public final class TalksTest {
         learnt();
         learntOfYesAndWalk();
         learntAsTold();
+        learntBarredToTheOther();
         learntRefused();
         CHECK.finish();
     }
@@ -363,6 +364,11 @@ public final class TalksTest {
         y.talk(0, 1, 7);
         due("20 over", y.runs(), 4);
         due("20 seven words", y.talks(1), 7);
+        y.talk(0, 1, 20);
+        due("20 over, of 20 words", y.runs(), 4);
+        due("20 twenty words", y.talks(1), 20);
+        y.talk(0, 1, 1);
+        due("20 over, of one word", y.runs(), 4);
         y.set(0, 1, 999);
         Check.wish(y, 0, "a1;!a");
         y.talk(0, 1, 20);
@@ -423,31 +429,72 @@ public final class TalksTest {
         due("23 who walks", y.learnt(0, 2), 2);
     }
 
-    private static void learntAsTold() {
+    /** 1 offers a for 11 COINS to 0, which has 10, would have it, and says what it may. */
+    private static BargainHall tooDear(int coinsOf0) {
         BargainHall x = new BargainHall();
         x.own(0, 1);
         for (int thing = 1; thing < 6; thing++) {
             x.own(thing, 2);
         }
-        x.coins(0, 10);
+        Check.wish(x, 0, "a20");
+        x.coins(0, coinsOf0);
         x.set(0, 1, 5);
-        x.talk(1, 0, 20);
-        x.offer(1, -10);
-        x.walk();
-        due("23 a walk that no wish says", x.learnt(0, 1), 0);
         x.talk(1, 0, 20);
         x.offer(1, -11);
         x.says();
-        due("23 not good: an offer by all alike", x.word(1, 0), 2);
-        int before = x.learnt(0, 1);
-        x.coins(0, 1000);
-        x.talks(0);
-        due("23 coins as the talk began, while it is open", x.learnt(0, 1), before);
+        return x;
+    }
+
+    private static void learntAsTold() {
+        BargainHall x = tooDear(10);
+        due("19 not good", x.word(1, 0), 2);
+        due("23 not good, while it is open", x.learnt(0, 1), 1);
         x.walk();
         x.coins(0, 1000);
-        due("23 coins as the talk began", x.learnt(0, 1), before);
+        due("23 coins of b as the talk began", x.learnt(0, 1), 1);
         x.own(0, 3);
-        due("23 things as the talk began, behind it", x.learnt(0, 1), before);
+        due("23 things as the talk began", x.learnt(0, 1), 1);
+
+        BargainHall y = tooDear(11);
+        due("19 good", y.word(1, 0), 3);
+        due("23 all its coins", y.learnt(0, 1), 1);
+        due("23 its coins are gone", y.told(0, 1), 0);
+        y.coins(1, 9999);
+        due("23 coins of a as the talk began", y.learnt(0, 1), 1);
+        Check.wish(y, 0, "b7");
+        due("23 its own wish does not matter", y.learnt(0, 1), 1);
+        Check.wish(y, 1, "!b");
+        due("23 nor what is not barred to the other one", y.learnt(0, 1), 1);
+
+        BargainHall z = tooDear(1000);
+        z.own(0, 1);
+        z.coins(1, 9989);
+        z.talk(1, 0, 20);
+        z.offer(1, -11);
+        due("19 a would have 10000", z.says(), 2);
+        z.walk();
+        z.coins(1, 0);
+        due("23 a would have had 10000", z.learnt(0, 1), 1);
+    }
+
+    private static void learntBarredToTheOther() {
+        BargainHall x = new BargainHall();
+        for (int thing = 2; thing < 6; thing++) {
+            x.own(thing, 2);
+        }
+        x.own(1, 1);
+        Check.wish(x, 0, "b20");
+        Check.wish(x, 1, "!a");
+        x.set(0, 1, 5);
+        x.talk(1, 0, 20);
+        x.offer(3, 0);
+        due("19 barred to the other one", x.says(), 2);
+        // b is worth 20; a may be anything, as no yes may be said
+        due("23 barred to the other one", x.learnt(0, 1), 3);
+        x.walk();
+        Check.wish(x, 1, "a1");
+        // with a worth 0 or 10 it would say yes now
+        due("23 the other one's wish as it is", x.learnt(0, 1), 1);
     }
 
     private static void learntRefused() {

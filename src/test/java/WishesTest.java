@@ -80,6 +80,8 @@ public final class WishesTest {
         due("4 n 0", x.type(97, 0), BargainHall.BAD);
         due("4 n 9", x.type(97, 9), BargainHall.BAD);
         due("4 n -1", x.type(97, -1), BargainHall.BAD);
+        due("4 n 9 of good bytes", x.type(0x6161616161616161L, 9), BargainHall.BAD);
+        due("4 n 16 of good bytes", x.type(0x6161616161616161L, 16), BargainHall.BAD);
         due("4 byte 31", x.type(31, 1), BargainHall.BAD);
         due("4 byte 127", x.type(127, 1), BargainHall.BAD);
         due("4 byte 255", x.type(-1L, 8), BargainHall.BAD);
