@@ -1,6 +1,10 @@
-/** Counts and prints answers that are not as due; a test ends with finish(). */
+import java.util.Set;
+import java.util.TreeSet;
+
+/** Counts and prints answers that are not as due; a test ends with finish(). What is asked begins with its promise's number. */
 final class Check {
     private final String name;
+    private final Set<String> promises = new TreeSet<>();
     private int asked;
     private int wrong;
 
@@ -10,6 +14,7 @@ final class Check {
 
     void due(String what, long got, long want) {
         asked++;
+        promises.add(what.split(" ")[0]);
         if (got != want) {
             wrong++;
             System.out.println(name + ": " + what + " answered " + got + ", due is " + want);
@@ -18,6 +23,13 @@ final class Check {
 
     void holds(String what, boolean holds) {
         due(what, holds ? 1 : 0, 1);
+    }
+
+    /** No promise of these may have been left out. */
+    void covers(int firstPromise, int lastPromise) {
+        for (int promise = firstPromise; promise <= lastPromise; promise++) {
+            holds("a line of promise " + promise, promises.contains(String.valueOf(promise)));
+        }
     }
 
     void finish() {

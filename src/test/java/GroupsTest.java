@@ -12,6 +12,7 @@ public final class GroupsTest {
         shareOfOnesOwn();
         shareWithoutValues();
         envy();
+        CHECK.covers(24, 28);
         CHECK.finish();
     }
 
@@ -121,6 +122,13 @@ public final class GroupsTest {
         due("26 the group without a value does not", y.leaves(), 3);
         Check.wish(y, 1, "a40");
         due("25 none above", y.unrest(), 0);
+        due("24 of both, below as they are", y.value(3), 40);
+        due("26 a group that would do worse does not leave", y.leaves(), BargainHall.NONE);
+        Check.wish(y, 2, "a50");
+        due("26 nor one that would do as well", y.leaves(), BargainHall.NONE);
+        Check.wish(y, 2, "a51");
+        due("26 one that would do better by 1", y.leaves(), 5);
+        due("25 by 1", y.unrest(), 1);
     }
 
     private static void share() {

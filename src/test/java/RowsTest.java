@@ -8,6 +8,7 @@ public final class RowsTest {
         root();
         proof();
         proves();
+        CHECK.covers(38, 41);
         CHECK.finish();
     }
 

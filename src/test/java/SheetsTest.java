@@ -12,6 +12,7 @@ public final class SheetsTest {
         wishes();
         wishesOfAPart();
         wishesRefused();
+        CHECK.covers(42, 45);
         CHECK.finish();
     }
 
@@ -144,6 +145,19 @@ public final class SheetsTest {
         due("45 from 0: one is 1000", x.wishes(0, 0, 2, 0), BargainHall.NOT);
         due("45 from 5: one is 1000", x.wishes(0, 0, 2, 5), BargainHall.NOT);
         due("45 the wish stays", x.worth(0, 32), 11);
+        x.item(0, 2, 11, 100);
+        due("45 from 6: the last is 100", x.wishes(0, 0, 2, 6), BargainHall.NOT);
+        x.item(0, 2, 11, -100);
+        due("45 from 6: the last is -100", x.wishes(0, 0, 2, 6), BargainHall.NOT);
+        x.item(0, 2, 11, 0);
+        x.item(0, 2, 6, 100);
+        due("45 from 6: the first is 100", x.wishes(0, 0, 2, 6), BargainHall.NOT);
+        x.sheet(1, 2, 6);
+        due("45 of another sheet", x.wishes(0, 1, 2, 0), 6);
+        x.item(1, 2, 3, 100);
+        x.sheet(0, 2, 6);
+        due("45 of another sheet: one is 100", x.wishes(0, 1, 2, 0), BargainHall.NOT);
+        due("45 of its own number's sheet", x.wishes(0, 0, 2, 0), 6);
         due("45 from 7", x.wishes(0, 0, 2, 7), BargainHall.INDEX);
         due("45 from -1", x.wishes(0, 0, 2, -1), BargainHall.INDEX);
         due("45 from the least", x.wishes(0, 0, 2, Integer.MIN_VALUE), BargainHall.INDEX);

@@ -17,12 +17,18 @@ public final class TalksTest {
         machineAgrees();
         machineWalks();
         machineCountsItsWords();
+        machineAtItsMandate();
+        machineBeginsAnew();
         runs();
         learnt();
+        learntOfB();
         learntOfYesAndWalk();
         learntAsTold();
         learntBarredToTheOther();
+        learntBarredToB();
+        learntWithoutItsBars();
         learntRefused();
+        CHECK.covers(13, 23);
         CHECK.finish();
     }
 
@@ -349,6 +355,47 @@ public final class TalksTest {
         offered(x, 4, 1, 8, 13 - 12 - 80);
     }
 
+    private static void machineAtItsMandate() {
+        BargainHall x = owners();
+        x.set(0, 0, 20);
+        x.set(0, 1, 3);
+        x.talk(0, 1, 20);
+        x.says();
+        offered(x, 0, 1, 0, -20);
+        x.offer(0, -19);
+        due("19 above the start, below the mandate", x.says(), 2);
+        x.offer(0, -20);
+        due("19 just the mandate", x.says(), 3);
+
+        BargainHall y = owners();
+        y.set(0, 1, 99);
+        y.set(0, 2, 99);
+        y.talk(0, 1, 20);
+        for (int k = 0; k < 3; k++) {
+            y.says();
+            y.ask(0);
+        }
+        offered(y, 0, 1, 0, -99);
+        offered(y, 2, 1, 1, 0);
+        offered(y, 4, 1, 2, 0);
+    }
+
+    /** Behind the last of its EXCHANGES a MACHINE goes on with the first. */
+    private static void machineBeginsAnew() {
+        BargainHall x = new BargainHall();
+        for (int thing = 1; thing < 6; thing++) {
+            x.own(thing, 2);
+        }
+        Check.wish(x, 0, "a7");
+        x.set(0, 2, 0);
+        x.talk(0, 1, 20);
+        due("20 twenty words", x.runs(), 4);
+        for (int k = 0; k < 10; k++) {
+            due("19 of two, set " + k, x.offered(2 * k, 0), k % 2);
+            due("19 of two, price " + k, x.offered(2 * k, 1), k % 2 == 0 ? -100 : -107);
+        }
+    }
+
     private static void runs() {
         BargainHall x = owners();
         due("20 no talk", x.runs(), BargainHall.NOT);
@@ -394,6 +441,38 @@ public final class TalksTest {
         x.offer(0, 0);
         due("23 a word that no wish says", x.learnt(0, 2), 0);
         due("23 the first one alone", x.learnt(0, 1), 9);
+    }
+
+    /** 0 has a, b; 1 has c: what 1 says tells of what it would have. */
+    private static void learntOfB() {
+        BargainHall x = new BargainHall();
+        for (int thing = 3; thing < 6; thing++) {
+            x.own(thing, 2);
+        }
+        x.own(1, 1);
+        x.own(2, 1);
+        Check.wish(x, 1, "a20;b10;c10");
+        x.talk(0, 1, 20);
+        x.ask(1);
+        due("23 b has said nothing", x.learnt(1, 0), 27);
+        due("23 b has said nothing, a word", x.learnt(1, 1), BargainHall.BAD);
+        x.says();
+        x.ask(2);
+        // 1 asks 80 for having a too: a is worth 20; b and c may be anything
+        offered(x, 1, 1, 1, 80);
+        due("23 b has said one word", x.learnt(1, 1), 9);
+        due("23 b has said one word: all", x.learnt(1, 0), 9);
+        due("23 b has said one word, not two", x.learnt(1, 2), BargainHall.BAD);
+        due("23 a has said two words, not three", x.learnt(0, 3), BargainHall.BAD);
+        due("23 a has asked", x.learnt(0, 2), 0);
+        x.says();
+        // then it gives b for a, for 80: with 20 for a it is 10 for b, and c is worth no less
+        offered(x, 3, 1, 3, 80);
+        due("23 b has said two words", x.learnt(1, 2), 2);
+        due("23 b has said two words: all", x.learnt(1, 0), 2);
+        due("23 the first of them alone", x.learnt(1, 1), 9);
+        Check.wish(x, 1, "a0");
+        due("23 the machine's wish as it is does not matter", x.learnt(1, 2), 2);
     }
 
     private static void learntOfYesAndWalk() {
@@ -497,10 +576,59 @@ public final class TalksTest {
         due("23 the other one's wish as it is", x.learnt(0, 1), 1);
     }
 
+    /** The same, where the one that is learnt of began the TALK. */
+    private static void learntBarredToB() {
+        BargainHall x = new BargainHall();
+        for (int thing = 2; thing < 6; thing++) {
+            x.own(thing, 2);
+        }
+        x.own(1, 1);
+        Check.wish(x, 0, "b20");
+        Check.wish(x, 1, "!a");
+        x.set(0, 1, 5);
+        x.set(0, 2, 0);
+        x.talk(0, 1, 20);
+        x.says();
+        x.offer(3, 0);
+        due("19 barred to the other one", x.says(), 2);
+        // it would pay 15 for b, which is worth 20, and as much if it gave a for it, which is worth 0
+        offered(x, 0, 1, 2, 15);
+        offered(x, 2, 2, 3, 15);
+        due("23 barred to b", x.learnt(0, 2), 1);
+        x.walk();
+        Check.wish(x, 1, "a1");
+        due("23 not barred to b any more: it would say yes", x.learnt(0, 2), 0);
+    }
+
+    /** The WISHES that are tried have no bars: where it has one, its MACHINE says what none of them would. */
+    private static void learntWithoutItsBars() {
+        BargainHall x = new BargainHall();
+        x.own(0, 1);
+        for (int thing = 1; thing < 6; thing++) {
+            x.own(thing, 2);
+        }
+        Check.wish(x, 0, "!a");
+        x.set(0, 1, 5);
+        x.talk(1, 0, 20);
+        x.offer(1, 5);
+        due("19 barred to it", x.says(), 2);
+        offered(x, 1, 2, 0, 5);
+        due("23 none would say no", x.learnt(0, 1), 0);
+        x.walk();
+        x.talk(1, 0, 20);
+        x.offer(1, 4);
+        due("19 barred to it, and too little", x.says(), 2);
+        // with a worth 0 it would not say yes to 4, and ask for 5 as it did; with more it would say yes
+        due("23 one would say so", x.learnt(0, 1), 1);
+    }
+
     private static void learntRefused() {
         BargainHall x = new BargainHall();
         due("23 no talk", x.learnt(0, 0), BargainHall.NOT);
         due("23 no talk, n 5", x.learnt(0, 5), BargainHall.NOT);
+        due("23 no talk, of 1", x.learnt(1, 0), BargainHall.NOT);
+        due("23 no talk, of 2", x.learnt(2, 0), BargainHall.NOT);
+        due("23 no talk, of 3", x.learnt(3, 1), BargainHall.NOT);
         due("23 no talk, n -1", x.learnt(0, -1), BargainHall.BAD);
         for (int house : NO_HOUSES) {
             due("23 house " + house, x.learnt(house, 0), BargainHall.BAD);

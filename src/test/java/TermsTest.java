@@ -14,13 +14,16 @@ public final class TermsTest {
         full();
         happen();
         pay();
+        payEachKind();
         payIsRefused();
         statesOfADue();
         statesOfAnIf();
         statesOfABar();
         mendsOfMends();
         paidWhileWaiting();
+        hourZero();
         owes();
+        CHECK.covers(29, 37);
         CHECK.finish();
     }
 
@@ -148,6 +151,20 @@ public final class TermsTest {
         due("34 coins stay", x.told(2, 1), 600);
     }
 
+    private static void payEachKind() {
+        BargainHall x = new BargainHall();
+        x.due(0, 1, 1, 20);
+        x.when(1, 2, 20, 0, 5);
+        x.mend(2, 3, 300, 0, 5);
+        due("34 a due", x.pay(0, 0), 1001);
+        due("34 an if, ahead of its event", x.pay(1, 0), 1020);
+        due("34 a mend, ahead of the break", x.pay(2, 0), 1300);
+        due("34 coins of 0", x.told(0, 1), 999);
+        due("34 coins of 1", x.told(1, 1), 981);
+        due("34 coins of 2", x.told(2, 1), 720);
+        due("34 coins of 3", x.told(3, 1), 1300);
+    }
+
     private static void payIsRefused() {
         BargainHall x = new BargainHall();
         x.due(0, 1, 400, 20);
@@ -272,6 +289,24 @@ public final class TermsTest {
         x.pay(1, 7);
         x.happen(4, 5, 20);
         states("in time, as is known then", x, 1, new int[][] {{19, 1, BargainHall.NONE}, {20, 3, 7}});
+    }
+
+    /** 0 is an hour like another one: what happened or was paid then has happened, and is paid. */
+    private static void hourZero() {
+        BargainHall x = new BargainHall();
+        x.when(0, 1, 1, 0, 0);
+        x.bar(0, 0);
+        x.mend(0, 1, 1, 1, 0);
+        x.due(0, 1, 1, 0);
+        due("33 at hour 0, known then", x.happen(0, 0, 0), 1);
+        due("33 it has happened", x.happen(0, 5, 5), BargainHall.NOT);
+        states("an if of hour 0", x, 0, new int[][] {{0, 2, 0}, {1, 4, 0}});
+        due("35 a bar broken at hour 0", x.state(1, 0), 4);
+        states("a mend of that", x, 2, new int[][] {{0, 2, 0}, {1, 4, 0}});
+        due("34 paid at hour 0", x.pay(3, 0), 1001);
+        states("paid at hour 0", x, 3, new int[][] {{0, 3, 0}, {1, 3, 0}});
+        due("34 it is paid", x.pay(3, 1), BargainHall.NOT);
+        due("37 it is not owed", x.owes(0, 0), 2);
     }
 
     private static void owes() {

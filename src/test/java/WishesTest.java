@@ -6,20 +6,25 @@ public final class WishesTest {
 
     public static void main(String[] args) {
         aNewObject();
+        objectsApart();
         own();
         coins();
         type();
         wishes();
         faults();
         faultsAndTheTape();
+        fullTape();
         worthAndBarred();
         told();
         set();
         gain();
         good();
+        goodThen();
         best();
+        bestOfWhatMayBe();
         noBest();
         closedWhileOpen();
+        CHECK.covers(1, 12);
         CHECK.finish();
     }
 
@@ -43,6 +48,34 @@ public final class WishesTest {
         due("1 no terms", x.state(0, 0), BargainHall.BAD);
         due("1 rows are 0", x.row(3, 0), 0);
         due("1 no sheets", x.drop(3), BargainHall.NULL);
+    }
+
+    /** What one object is told, another one does not know. */
+    private static void objectsApart() {
+        BargainHall other = new BargainHall();
+        BargainHall x = new BargainHall();
+        x.own(0, 1);
+        x.coins(0, 1);
+        x.set(0, 0, 1);
+        Check.wish(x, 0, "a1;!a");
+        x.type(97, 1);
+        x.due(0, 1, 1, 1);
+        x.happen(0, 1, 1);
+        x.row(0, 1);
+        x.sheet(0, 0, 1);
+        x.talk(0, 1, 1);
+        due("1 things", other.told(0, 0), 63);
+        due("1 coins", other.told(0, 1), 1000);
+        due("1 mandate", other.told(0, 2), 0);
+        due("1 clauses", other.told(0, 5), 0);
+        due("1 worth", other.worth(0, 1), 0);
+        due("1 barred", other.barred(0, 1), 0);
+        due("1 the tape", other.type(97, 1), 1);
+        due("1 no terms", other.due(0, 1, 1, 1), 0);
+        due("1 no event", other.happen(0, 1, 1), 1);
+        due("1 the row", other.row(0, 1), 0);
+        due("1 no sheet", other.drop(0), BargainHall.NULL);
+        due("1 no talk", other.talks(0), 0);
     }
 
     private static void own() {
@@ -203,6 +236,26 @@ public final class WishesTest {
         due("5 a7", x.worth(1, 1), 7);
     }
 
+    /** A text of so many blanks and a rest behind them. */
+    private static String behindBlanks(int blanks, String rest) {
+        return " ".repeat(blanks) + rest;
+    }
+
+    private static void fullTape() {
+        BargainHall x = new BargainHall();
+        due("5 a wish of 90 bytes", Check.wish(x, 0, behindBlanks(88, "f9")), 1);
+        due("5 its worth", x.worth(0, 32), 9);
+        due("5 twelve clauses in 90 bytes", Check.wish(x, 1, "abcd-99;".repeat(11) + "a1"), 12);
+        due("5 their worth", x.worth(1, 15), 1 - 11 * 99);
+        fault(behindBlanks(90, ""), 90);
+        fault(behindBlanks(89, "f"), 90);
+        fault(behindBlanks(89, "~"), 89);
+        fault(behindBlanks(86, "f100"), 87);
+        fault(behindBlanks(87, "a1;"), 90);
+        due("4 91 bytes", Check.type(x, behindBlanks(88, "f9 ")), BargainHall.FULL);
+        due("5 the 88 of them that were taken", x.wish(0), -20 - 88);
+    }
+
     private static void worthAndBarred() {
         BargainHall x = new BargainHall();
         Check.wish(x, 0, "a10;b20;ab-5;cf99;!ab;!f");
@@ -347,6 +400,21 @@ public final class WishesTest {
         }
     }
 
+    /** What a HOUSE gives away does not count any more, on either side; what it gets does. */
+    private static void goodThen() {
+        BargainHall x = fourOwners();
+        Check.wish(x, 0, "!a");
+        due("11 a has a barred set and keeps it", x.good(0, 1, 2, 0), 0);
+        due("11 a gives what is barred to it away", x.good(0, 1, 1, 0), 1);
+        due("11 a gives what is barred to it away, and gets more", x.good(0, 1, 5, 0), 1);
+        due("11 b gives what is barred to it away", x.good(1, 0, 1, 0), 1);
+        Check.wish(x, 0, "!bc");
+        due("11 a gets what is barred to it", x.good(0, 1, 4, 0), 0);
+        due("11 a gets it and gives a part away", x.good(0, 1, 6, 0), 1);
+        due("11 b gets what is barred to it", x.good(1, 0, 4, 0), 0);
+        due("11 b gets it and gives a part away", x.good(1, 0, 6, 0), 1);
+    }
+
     private static void best4(BargainHall x, int a, int b, int... wanted) {
         for (int what = 0; what < 4; what++) {
             due("12 best(" + a + ", " + b + ", " + what + ")", x.best(a, b, what), wanted[wanted.length == 1 ? 0 : what]);
@@ -380,6 +448,26 @@ public final class WishesTest {
         x.coins(0, 3);
         best4(x, 0, 1, 4, 3, 4, 3);
         x.coins(0, 2);
+        best4(x, 0, 1, -10004);
+    }
+
+    private static void bestOfWhatMayBe() {
+        BargainHall x = fourOwners();
+        Check.wish(x, 0, "c40;e99;f99");
+        Check.wish(x, 1, "a30;e99");
+        // things of 2 and 3 do not count
+        best4(x, 0, 1, 5, 5, 35, 35);
+        Check.wish(x, 0, "c40;!c");
+        best4(x, 0, 1, 1, -15, 15, 15);
+        Check.wish(x, 0, "c40");
+        Check.wish(x, 1, "a30;!a");
+        best4(x, 0, 1, 4, 20, 20, 20);
+        best4(x, 1, 0, 4, -20, 20, 20);
+        // what is barred as it is must be given away; if both together lose by that, it is below mandates of 0
+        Check.wish(x, 0, "a10;!a");
+        Check.wish(x, 1, "a10");
+        best4(x, 0, 1, 1, -10, 0, 0);
+        Check.wish(x, 1, "a9");
         best4(x, 0, 1, -10004);
     }
 
