@@ -22,6 +22,8 @@ public final class TermsTest {
         mendsOfMends();
         paidWhileWaiting();
         hourZero();
+        lastHour();
+        owesMost();
         owes();
         CHECK.covers(29, 37);
         CHECK.finish();
@@ -307,6 +309,37 @@ public final class TermsTest {
         states("paid at hour 0", x, 3, new int[][] {{0, 3, 0}, {1, 3, 0}});
         due("34 it is paid", x.pay(3, 1), BargainHall.NOT);
         due("37 it is not owed", x.owes(0, 0), 2);
+    }
+
+    /** No hour is behind 9999: what is due then is never late, and nothing mends it. */
+    private static void lastHour() {
+        BargainHall x = new BargainHall();
+        x.due(0, 1, 1, 9999);
+        x.mend(1, 0, 1, 0, 0);
+        x.due(0, 1, 1, 9998);
+        x.mend(1, 0, 1, 2, 999);
+        x.when(0, 1, 1, 0, 0);
+        x.happen(0, 9999, 9999);
+        states("due at the last hour", x, 0, new int[][] {{9998, 2, 9999}, {9999, 2, 9999}});
+        states("a mend of that", x, 1, new int[][] {{9999, 1, BargainHall.NONE}});
+        states("due one ahead", x, 2, new int[][] {{9998, 2, 9998}, {9999, 4, 9998}});
+        states("a mend of that", x, 3, new int[][] {{9998, 1, BargainHall.NONE}, {9999, 2, 10998}});
+        states("an if of the last hour", x, 4, new int[][] {{9998, 1, BargainHall.NONE}, {9999, 2, 9999}});
+        x.pay(0, 9999);
+        x.pay(2, 9999);
+        states("paid at the last hour", x, 0, new int[][] {{9998, 2, 9999}, {9999, 3, 9999}});
+        states("mended at the last hour", x, 2, new int[][] {{9998, 2, 9998}, {9999, 5, 9998}});
+        states("a mend of what is mended", x, 3, new int[][] {{9999, 2, 10998}});
+    }
+
+    private static void owesMost() {
+        BargainHall x = new BargainHall();
+        for (int i = 0; i < 16; i++) {
+            x.due(3, i % 3, 999, 5);
+        }
+        due("37 of 16 terms that are owed", x.owes(3, 5), 16 * 999);
+        due("37 of 16 terms that are late", x.owes(3, 9999), 16 * 999);
+        due("37 of another", x.owes(0, 5), 0);
     }
 
     private static void owes() {
